@@ -409,7 +409,6 @@ public final class LinkStation {
         Layout(LinkModule[] allModules) {
             modules = allModules;
             Arrays.fill(places, NONE);
-            Arrays.fill(givers, NOTHING);
         }
 
         void clear() {
@@ -526,9 +525,9 @@ public final class LinkStation {
             }
         }
 
+        // No step is ever taken away, so that every slot there was is met here again.
         private void refreshSlots(int m) {
             LinkModule module = modules[m];
-            Arrays.fill(module.slots, NONE);
             for (int s = 0; s < module.stepCount; s++) {
                 if (module.ops[s] == CALL) {
                     int name = module.as[s];

@@ -228,8 +228,9 @@ public final class PromiseTest {
             is("step", x.put(1, 12, 0, 0, 0), s);
         }
         is("101st step", x.put(1, 12, 0, 0, 0), NONE);
+        is("all are loaded", x.load(1, 0), 0);
         is("first step of another", x.put(0, 12, 0, 0, 0), 0);
-        is("ops -1", x.put(0, -1, 0, 0, 0), NONE);
+        is("op -1", x.put(0, -1, 0, 0, 0), NONE);
         is("op 15", x.put(0, 15, 0, 0, 0), NONE);
         is("op, greatest", x.put(0, Integer.MAX_VALUE, 0, 0, 0), NONE);
         is("op, least", x.put(0, Integer.MIN_VALUE, 0, 0, 0), NONE);
@@ -497,6 +498,12 @@ public final class PromiseTest {
         comeTo(x, 5, NOTHING, NOTHING, 2, NOTHING);
         comeTo(x, 6, 1, 1, 1, 1);
         comeTo(x, 7, NOTHING, NOTHING, NOTHING, NOTHING);
+        x.load(0, 1);
+        x.load(3, 0);
+        is("what another root loaded is not met", x.comes(3, 0), NOTHING);
+        is("what another root loaded is not met", x.comes(3, 6), NOTHING);
+        is("its own", x.comes(3, 1), 3);
+        x.load(0, 0);
         is("not loaded", x.comes(4, 0), NONE);
         is("no module", x.comes(5, 0), NONE);
         is("module -1", x.comes(-1, 0), NONE);
@@ -776,6 +783,16 @@ public final class PromiseTest {
         x.load(0, 0);
         is("a beginner comes behind the last", x.run(13, 99), 4);
         is("steps", x.count(0), 0);
+        LinkStation many = withModules(12);
+        for (int m = 0; m < 12; m++) {
+            putAll(many, m, new int[][] {{0, 1, 1}, {2, 0, 0, 1}, {12}});
+            many.define(m, m, FUNCTION, 0, 0);
+            many.beginner(m, m);
+            many.need(m, (m + 1) % 12);
+        }
+        many.load(0, 0);
+        is("twelve beginners and the entry", many.run(5, 39), 0);
+        is("each was called", many.register(0), 13);
         LinkStation own = loadedWith(new int[][] {{0, 1, 1}, {13, 0}, {2, 0, 0, 1}, {12}});
         own.beginner(0, 0);
         own.load(0, 0);
