@@ -22,7 +22,9 @@ public final class RulesTest {
 
     public static void main(String[] args) throws IOException {
         lookAtFace();
-        for (Class<?> inside : LinkStation.class.getDeclaredClasses()) {
+        Class<?>[] insides = LinkStation.class.getDeclaredClasses();
+        expect(insides.length < 12, "the file has at most twelve classes");
+        for (Class<?> inside : insides) {
             lookAtInside(inside);
         }
         lookAtText();
@@ -88,6 +90,9 @@ public final class RulesTest {
         expect(fields <= 20, inside + " has at most 20 fields");
         for (Method method : inside.getDeclaredMethods()) {
             expect(method.getParameterCount() <= 7, method + " has at most seven parameters");
+            for (String call : FACE) {
+                expect(!call.startsWith(method.getName() + "("), method + " has a name of its own");
+            }
         }
     }
 
@@ -102,5 +107,24 @@ public final class RulesTest {
         while (imports.find()) {
             expect(imports.group(1).equals("java.util.Arrays"), "no import of " + imports.group(1));
         }
+        lookAtLengths(code);
+    }
+
+    /** A method begins with a line that ends in ") {" outside of other methods, and ends with its own depth. */
+    private static void lookAtLengths(String code) {
+        String[] lines = code.split("\n");
+        int begin = -1;
+        String end = "";
+        for (int k = 0; k < lines.length; k++) {
+            boolean isHead = lines[k].matches("( {4}| {8})(?!if|for|while|switch|do\\b|\\}).*\\(.*\\) \\{");
+            if (begin < 0 && isHead) {
+                begin = k;
+                end = lines[k].replaceAll("\\S.*", "") + "}";
+            } else if (begin >= 0 && lines[k].equals(end)) {
+                expect(k - begin < 60, "a method of at most 60 lines: " + lines[begin].trim());
+                begin = -1;
+            }
+        }
+        expect(begin < 0, "each method's end is found");
     }
 }
