@@ -27,6 +27,7 @@ public final class TermsTest {
         ofANameOne();
         stepsAreAtMostAHundred();
         registersAre0To7();
+        stepsReckon();
         intsRunOver();
         whatIsNotNamedDoesNotMatter();
         lessIsNotEqual();
@@ -295,6 +296,24 @@ public final class TermsTest {
         }
         is(x.register(8), 0);
         is(x.register(-1), 0);
+    }
+
+    private static void stepsReckon() {
+        of("2 register a becomes the sum of b and c, 3 the difference, 4 the product");
+        int[] numbers = {-7, -1, 0, 1, 6};
+        for (int b : numbers) {
+            for (int c : numbers) {
+                LinkStation x = program(row(0, 1, b), row(0, 2, c), row(2, 3, 1, 2), row(3, 4, 1, 2), row(4, 5, 1, 2),
+                    row(4, 1, 1, 2), row(1, 2, 3), row(12));
+                is(x.run(0, 8), 0);
+                is(x.count(0), 8);
+                is(x.register(3), b + c);
+                is(x.register(4), b - c);
+                is(x.register(5), b * c);
+                is(x.register(1), b * c);
+                is(x.register(2), b + c);
+            }
+        }
     }
 
     private static void intsRunOver() {
