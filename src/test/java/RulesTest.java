@@ -1,10 +1,13 @@
 import java.io.IOException;
+import java.lang.reflect.Array;
 import java.lang.reflect.Constructor;
 import java.lang.reflect.Field;
 import java.lang.reflect.Method;
 import java.lang.reflect.Modifier;
 import java.nio.file.Files;
 import java.nio.file.Path;
+import java.util.IdentityHashMap;
+import java.util.Map;
 import java.util.Set;
 import java.util.TreeSet;
 import java.util.regex.Matcher;
@@ -18,9 +21,10 @@ public final class RulesTest {
         "count(int)", "said(int)", "register(int)", "datum(int,int)", "check()"};
     private static final String FORBIDDEN = "\\b(throw|throws|try|catch|synchronized|assert|package|"
         + "hashCode|toString|Exact|Random|Thread|Runtime|nanoTime|currentTimeMillis|Object|Class)\\b|->|::|@";
+    private static final Set<String> LIBRARY = Set.of("Arrays.fill", "System.arraycopy", "Math.max");
     private static int wrong = 0;
 
-    public static void main(String[] args) throws IOException {
+    public static void main(String[] args) throws IOException, ReflectiveOperationException {
         lookAtFace();
         Class<?>[] insides = LinkStation.class.getDeclaredClasses();
         expect(insides.length < 12, "the file has at most twelve classes");
@@ -28,6 +32,7 @@ public final class RulesTest {
             lookAtInside(inside);
         }
         lookAtText();
+        lookAtRoom();
         if (wrong != 0) {
             System.exit(1);
         }
@@ -107,7 +112,50 @@ public final class RulesTest {
         while (imports.find()) {
             expect(imports.group(1).equals("java.util.Arrays"), "no import of " + imports.group(1));
         }
+        lookAtLibrary(code);
         lookAtLengths(code);
+    }
+
+    private static void lookAtLibrary(String code) {
+        Matcher used = Pattern.compile("\\b([A-Z][a-z]+)\\.(\\w+)").matcher(code);
+        while (used.find()) {
+            expect(LIBRARY.contains(used.group()), "the library's " + used.group() + " is not used");
+        }
+        expect(!Pattern.compile("\\bstatic\\s*\\{").matcher(code).find(), "there is no static initialiser block");
+        expect(!Pattern.compile("\\bwhile\\s*\\(\\s*true|for\\s*\\(\\s*;").matcher(code).find(), "every loop has an end");
+        expect(code.chars().allMatch(c -> c == '\n' || (c >= ' ' && c <= '~')), "the file's characters are plain ones");
+    }
+
+    /** A full station, with all that hangs on it, is a small part of the room that all calls share. */
+    private static void lookAtRoom() throws ReflectiveOperationException {
+        LinkStation x = new LinkStation();
+        while (x.module() != LinkStation.NONE) {
+            x.beginner(0, LinkStation.NONE);
+        }
+        Map<Object, Boolean> seen = new IdentityHashMap<>();
+        expect(roomOf(x, seen) < 20_000, "a full station has less than 20,000 fields and elements");
+        expect(seen.size() < 400, "a full station has less than 400 objects: " + seen.size());
+    }
+
+    private static int roomOf(Object part, Map<Object, Boolean> seen) throws ReflectiveOperationException {
+        if (part == null || seen.put(part, true) != null) {
+            return 0;
+        }
+        if (part.getClass().isArray()) {
+            int room = Array.getLength(part);
+            for (int k = 0; part instanceof Object[] && k < Array.getLength(part); k++) {
+                room += roomOf(Array.get(part, k), seen);
+            }
+            return room;
+        }
+        int room = 0;
+        for (Field field : part.getClass().getDeclaredFields()) {
+            if (!Modifier.isStatic(field.getModifiers())) {
+                field.setAccessible(true);
+                room += 1 + (field.getType().isPrimitive() ? 0 : roomOf(field.get(part), seen));
+            }
+        }
+        return room;
     }
 
     /** A method begins with a line that ends in ") {" outside of other methods, and ends with its own depth. */
